@@ -543,10 +543,6 @@ public final class TastelessCook {
         final int[] cold = new int[BROTHERS];
         final int[] shown = new int[BROTHERS];
 
-        Scene() {
-            Arrays.fill(shown, NONE);
-        }
-
         void become(Scene other) {
             System.arraycopy(other.pot, 0, pot, 0, PARTS);
             System.arraycopy(other.cold, 0, cold, 0, BROTHERS);
@@ -756,7 +752,7 @@ public final class TastelessCook {
         int search(Brothers brothers, Scene scene, int set) {
             forgetReached();
             trial.become(scene);
-            reach(0, 0, WATER);
+            reach(0, 0, NONE);
             for (int i = 0; i < many && i < ROWS; i++) {
                 rowOf(reached[i], trial.pot);
                 if (brothers.areCalm(set, trial)) {

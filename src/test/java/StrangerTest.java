@@ -1,3 +1,5 @@
+import java.util.Arrays;
+
 /** Promises 18 to 21: sees, forget, likings, ask. */
 public final class StrangerTest {
     private static final int BAD = TastelessCook.BAD, FULL = TastelessCook.FULL, NONE = TastelessCook.NONE;
@@ -94,23 +96,69 @@ public final class StrangerTest {
         Check.due("nothing is seen", cook.count(1), 0);
         cook = Check.told("p5 5 5 5;");
         Check.due("ask in full: what can't be done counts as nothing done", cook.ask(), 4);
-        cook = Check.told("p0 0 0 5;");
-        cook.sees(0);
-        cook.forget();
-        Check.due("ask behind forget", cook.ask(), byAllRows(new int[] {0, 0, 0, 5}));
     }
 
-    /** What ask answers with nothing seen, by the document's words: all 1296 rows, each deed, each mien. */
-    private static int byAllRows(int[] pot) {
-        int best = 0;
+    private static void asksOfTwo() {
+        // 0 1 0 0 and 0 1 1 0 are left: with sour as they like it they show pepper, sweet
+        TastelessCook cook = Check.told("p0 0 0 2;");
+        cook.sees(7);
+        cook.waters();
+        cook.sees(4);
+        likesAre(cook, 2, 0, 0, 1, 1, 0, 1, 0, 0);
+        Check.due("ask of two: sour", cook.ask(), 1);
+        // 0 0 0 0 and 0 0 0 1 are left: more pepper is too much for one, for the other no more than sweet is
+        cook = Check.told("p0 0 1 0;");
+        cook.sees(5);
+        cook.adds(3);
+        cook.sees(5);
+        likesAre(cook, 2, 0, 0, 0, 0, 0, 0, 0, 1);
+        Check.due("ask of two: pepper", cook.ask(), 3);
+        // the same two: here one of them is calm behind water
+        cook = Check.told("p0 0 1 0;");
+        cook.sees(5);
+        cook.adds(0);
+        cook.sees(1);
+        likesAre(cook, 2, 0, 0, 0, 0, 0, 0, 0, 1);
+        Check.due("ask of two: water", cook.ask(), 4);
+    }
+
+    private static int[] row(int number) {
+        return new int[] {number / 216, number / 36 % 6, number / 6 % 6, number % 6};
+    }
+
+    private static int mien(int[] likes, int[] pot) {
+        int furthest = 0;
+        for (int part = 1; part < 4; part++) {
+            int by = Math.abs(pot[part] - likes[part]);
+            furthest = by > Math.abs(pot[furthest] - likes[furthest]) ? part : furthest;
+        }
+        int by = pot[furthest] - likes[furthest];
+        return by == 0 ? 0 : 2 * furthest + (by > 0 ? 1 : 2);
+    }
+
+    private static int[] behind(int[] pot, int deed) {
+        int[] then = pot.clone();
+        for (int part = 0; part < 4; part++) {
+            then[part] += deed == part && pot[part] < 5 ? 1 : deed == 4 && pot[part] > 0 ? -1 : 0;
+        }
+        return then;
+    }
+
+    /** What ask answers by the document's words, if a mien (-1: none) was seen with another pot. */
+    private static int byAllRows(int[] pot, int[] seenPot, int seenMien) {
+        int best = NONE;
         int least = Integer.MAX_VALUE;
         for (int deed = 0; deed <= 5; deed++) {
-            int[] then = pot.clone();
-            for (int part = 0; part < 4; part++) {
-                then[part] += deed == part && pot[part] < 5 ? 1 : deed == 4 && pot[part] > 0 ? -1 : 0;
+            int[] tally = new int[9];
+            int rows = 0;
+            for (int number = 0; number < 1296; number++) {
+                if (seenMien < 0 || mien(row(number), seenPot) == seenMien) {
+                    rows++;
+                    tally[mien(row(number), behind(pot, deed))]++;
+                }
             }
-            int most = mostOfOneMien(then);
-            if (most < least) {
+            int most = Arrays.stream(tally).max().getAsInt();
+            if (rows > 1 && most < least) {
                 least = most;
                 best = deed;
             }
@@ -118,28 +166,27 @@ public final class StrangerTest {
         return best;
     }
 
-    private static int mostOfOneMien(int[] pot) {
-        int[] tally = new int[9];
-        for (int row = 0; row < 1296; row++) {
-            int[] by = {pot[0] - row / 216, pot[1] - row / 36 % 6, pot[2] - row / 6 % 6, pot[3] - row % 6};
-            int furthest = 0;
-            for (int part = 1; part < 4; part++) {
-                furthest = Math.abs(by[part]) > Math.abs(by[furthest]) ? part : furthest;
-            }
-            tally[by[furthest] == 0 ? 0 : 2 * furthest + (by[furthest] > 0 ? 1 : 2)]++;
-        }
-        int most = 0;
-        for (int many : tally) {
-            most = Math.max(most, many);
-        }
-        return most;
-    }
-
-    private static void asksWithNothingSeen() {
-        for (int row = 0; row < 1296; row += 7) {
-            int[] pot = {row / 216, row / 36 % 6, row / 6 % 6, row % 6};
+    private static void asksByAllRows() {
+        boolean[] answered = new boolean[6];
+        for (int number = 0; number < 1296; number += 7) {
+            int[] pot = row(number);
             TastelessCook cook = Check.told("p" + pot[0] + " " + pot[1] + " " + pot[2] + " " + pot[3] + ";");
-            Check.due("ask with pot number " + row, cook.ask(), byAllRows(pot));
+            Check.due("ask with pot " + number + ", nothing seen", cook.ask(), byAllRows(pot, pot, -1));
+            for (int mien = 0; mien < 9; mien++) {
+                cook.forget();
+                cook.sees(mien);
+                cook.adds(mien % 4);
+                int[] then = {cook.pot(0), cook.pot(1), cook.pot(2), cook.pot(3)};
+                int want = byAllRows(then, pot, mien);
+                Check.due("ask behind pot " + number + ", mien " + mien, cook.ask(), want);
+                pot = then;
+                if (want >= 0) {
+                    answered[want] = true;
+                }
+            }
+        }
+        for (int deed = 0; deed <= 5; deed++) {
+            Check.holds("answer " + deed + " was due once at least", answered[deed]);
         }
     }
 
@@ -149,7 +196,8 @@ public final class StrangerTest {
         likesByMorePots();
         refused();
         asking();
-        asksWithNothingSeen();
+        asksOfTwo();
+        asksByAllRows();
         Check.finish("StrangerTest");
     }
 }

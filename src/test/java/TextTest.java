@@ -104,7 +104,28 @@ public final class TextTest {
         reads("p0 0 0 99999999999999999999;", -17);
         reads("p0 0 0 12", -17);
         reads("p0000;", -11);
+        for (int digit = 0; digit < 10; digit++) {
+            reads("p0" + digit + " 0 0 0;", -11);
+            reads("p1" + digit + " 0 0 0;", -11);
+            reads("p0 0 0 0;0" + digit, -19);
+        }
         reads("p0 0 0 0 0", -19);
+    }
+
+    /** Each number of each kind of item, up to its most and beyond. */
+    private static void limits() {
+        int[] most = {5, 5, 5, 5, 2, 1};
+        for (int items = 4; items <= 6; items += 2) {
+            for (int index = 0; index < items; index++) {
+                for (int number = 0; number < 12; number++) {
+                    StringBuilder text = new StringBuilder(items == 4 ? "p" : "b");
+                    for (int i = 0; i < items; i++) {
+                        text.append(i == index ? number : 0).append(i == items - 1 ? ';' : ' ');
+                    }
+                    reads(text.toString(), number <= most[index] ? 1 : -11 - 2 * index);
+                }
+            }
+        }
     }
 
     private static void endsTooEarly() {
@@ -200,6 +221,7 @@ public final class TextTest {
         faultless();
         faults();
         numbers();
+        limits();
         endsTooEarly();
         allLettersButThose();
         tellsAll();
