@@ -22,36 +22,6 @@ public final class ModelTest {
         random = new Random(seed);
     }
 
-    private static long answer(TastelessCook cook, String name, int a, int b, int c) {
-        switch (name) {
-            case "type": return cook.type(a);
-            case "clear": return cook.clear();
-            case "kitchen": return cook.kitchen();
-            case "pot": return cook.pot(a);
-            case "brother": return cook.brother(a, b);
-            case "off": return cook.off(a, b);
-            case "now": return cook.now(a);
-            case "adds": return cook.adds(a);
-            case "waters": return cook.waters();
-            case "sends": return cook.sends(a);
-            case "colds": return cook.colds(a, b);
-            case "undo": return cook.undo();
-            case "plan": return cook.plan(a, b);
-            case "middle": return cook.middle(a);
-            case "parted": return cook.parted(a);
-            case "odds": return cook.odds(a, b, c);
-            case "sees": return cook.sees(a);
-            case "forget": return cook.forget();
-            case "likings": return cook.likings(a, b);
-            case "ask": return cook.ask();
-            case "rate": return cook.rate(a, b);
-            case "keep": return cook.keep(a);
-            case "back": return cook.back(a);
-            case "count": return cook.count(a);
-            default: return cook.trace();
-        }
-    }
-
     private void call(String name, int a, int b, int c) {
         if (calls == CALLS) {
             return;
@@ -59,7 +29,7 @@ public final class ModelTest {
         calls++;
         run.append(name).append('(').append(a).append(", ").append(b).append(", ").append(c).append(") ");
         long want = plain.call(name, a, b, c);
-        long got = answer(cook, name, a, b, c);
+        long got = Run.answer(cook, name, a, b, c);
         Check.due(got == want ? name : run.toString(), got, want);
     }
 
