@@ -150,6 +150,8 @@ public final class StrangerEdgesTest {
     /** "NONE (one row at most)": none, one; with two it is answered. */
     private static void oneRowAtMost() {
         new Run().go("sees(1) likings(0, 0)=0 ask()=NONE");
+        new Run().go("sees(0) likings(0, 0)=1 ask()=NONE");
+        Run.told("p5 5 5 5;").go("sees(0) likings(0, 0)=1 ask()=NONE");
         Run.told("p2 3 1 4;").go("sees(0) likings(0, 0)=1 ask()=NONE forget()=1 ask()=2");
         // 0 1 0 0 and 0 1 1 0 are left: with sour as they like it they show pepper, sweet
         Run.told("p0 0 0 2;").go("sees(7) waters() sees(4) likings(0, 0)=2 ask()=1");
