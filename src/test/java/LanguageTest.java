@@ -3,6 +3,8 @@ import java.nio.charset.StandardCharsets;
 import java.nio.file.Files;
 import java.nio.file.Path;
 import java.util.List;
+import java.util.Map;
+import java.util.TreeMap;
 import java.util.regex.Matcher;
 import java.util.regex.Pattern;
 
@@ -16,6 +18,12 @@ public final class LanguageTest {
     /** Rule 4: every library call that the class may use by a library class's name. */
     private static final String LIBRARY =
         "Math\\.(max|min|abs)|Integer\\.bitCount|System\\.arraycopy|Arrays\\.fill";
+
+    /** Rule 11. */
+    private static final int MOST_LINES = 60;
+    private static final int MOST_DEPTH = 8;
+    private static final Pattern HEAD =
+        Pattern.compile("( {4}| {8})(?! |if|for|while|switch|\\})[^=/*(]*\\b(\\w+)\\([^;]*\\) \\{");
 
     private static String withoutComments(String source) {
         return source.replaceAll("(?s)/\\*.*?\\*/", "").replaceAll("//[^\n]*", "");
@@ -54,19 +62,41 @@ public final class LanguageTest {
         }
     }
 
-    /** By the way that the source is set in: a method ends with a brace as far in as its head. */
-    private static void shortMethods(List<String> lines) {
-        Pattern head = Pattern.compile("( {4}| {8})(?! |if|for|while|switch|\\})[^=/*(]*\\([^;]*\\) \\{");
-        int methods = 0;
+    /** The bodies of all methods by their names; by the way that the source is set in: a method ends as far in as its head. */
+    private static Map<String, String> bodies(List<String> lines) {
+        Map<String, String> bodies = new TreeMap<>();
         for (int i = 0; i < lines.size(); i++) {
-            Matcher matcher = head.matcher(lines.get(i));
+            Matcher matcher = HEAD.matcher(lines.get(i));
             if (matcher.matches()) {
                 int end = lines.subList(i, lines.size()).indexOf(matcher.group(1) + "}");
-                Check.holds("short: " + lines.get(i).trim(), end >= 0 && end <= 60);
-                methods++;
+                Check.holds("short: " + lines.get(i).trim(), end >= 0 && end <= MOST_LINES);
+                Check.holds("few parameters: " + lines.get(i).trim(), lines.get(i).split(",").length <= 7);
+                String body = String.join("\n", lines.subList(i + 1, i + Math.max(1, end)));
+                bodies.merge(matcher.group(2), body, (one, other) -> one + "\n" + other);
             }
         }
-        Check.holds("methods were found", methods > 26);
+        Check.holds("methods were found", bodies.size() > 26);
+        return bodies;
+    }
+
+    /** How many calls stand open at once below this one, the library's included; two methods of one name count as one. */
+    private static int depth(Map<String, String> bodies, String name, int open) {
+        if (open > MOST_DEPTH) {
+            return open;
+        }
+        int deepest = open;
+        Matcher calls = Pattern.compile("\\b(\\w+)\\(").matcher(bodies.getOrDefault(name, ""));
+        while (calls.find()) {
+            deepest = Math.max(deepest, depth(bodies, calls.group(1), open + 1));
+        }
+        return deepest;
+    }
+
+    /** Recursion would go beyond every depth, so there is none. */
+    private static void fewCallsDeep(Map<String, String> bodies) {
+        for (String name : bodies.keySet()) {
+            Check.holds("not too deep: " + name, depth(bodies, name, 1) <= MOST_DEPTH);
+        }
     }
 
     public static void main(String[] args) throws IOException {
@@ -75,7 +105,7 @@ public final class LanguageTest {
         words(code);
         signs(source);
         objectsOnlyAtFirst(code);
-        shortMethods(source.lines().toList());
+        fewCallsDeep(bodies(code.lines().toList()));
         Check.finish("LanguageTest");
     }
 }

@@ -360,6 +360,21 @@ public final class TextEdgesTest {
         }
     }
 
+    /** "the text's length, if it ends too early": letters that stood there in an earlier text, cleared or read, are none. */
+    private static void earlierLettersDoNotGoOn() {
+        for (String item : new String[] {"b5 4 3 2 1 0;", "p1 2 3 4;"}) {
+            for (int length = 1; length <= item.length(); length++) {
+                String front = item.substring(0, length);
+                String due = "kitchen()=" + (length < item.length() ? -10 - length : 1);
+                new Run().typed(item).go("clear()=" + item.length()).typed(front).go(due);
+                Run.told(item).typed(front).go(due);
+                for (String letter : new String[] {" ", "0", ";", "b", "p", "x"}) {
+                    new Run().typed(letter.repeat(120)).go("clear()=120").typed(front).go(due);
+                }
+            }
+        }
+    }
+
     /** A TOKEN at the very end that can't stand there is a fault of its own, not an end. */
     private static void theLastTokenIsWrong() {
         faultAt("p0 0 0 6", 7);
@@ -491,6 +506,7 @@ public final class TextEdgesTest {
         tooFewTooManyNumbers();
         theFirstFaultCounts();
         endsTooEarly();
+        earlierLettersDoNotGoOn();
         theLastTokenIsWrong();
         theLeastAndTheGreatestFault();
         aFaultChangesNothing();
